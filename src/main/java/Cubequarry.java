@@ -429,7 +429,7 @@ public final class Cubequarry {
         return knocks;
     }
 
-    /** The first thing it tells of can not fail here: the 64 digits are those that the library tells. */
+    /** That the 64 digits are told again alike holds by itself: none are kept, see Library. */
     public boolean isSound() {
         for (Figure at : cells) {
             if (at.kind == Figure.ROOT && !isRootSound(at)) {
@@ -995,7 +995,7 @@ public final class Cubequarry {
     }
 
     /**
-     * The 64 digits that NUMBERS are kept as. Those of the KINDS 2 to 4 are got as the document tells
+     * The 64 digits of NUMBERS, by KIND, t and SIGN alone. Those of the KINDS 2 to 4 are got as the document tells
      * it: a cube root near the true one, that multiplied by itself and by itself again, and the cube
      * root of this.
      */

@@ -766,6 +766,9 @@ final class Promises {
         Check.argument("way(0, -1)", () -> x.way(0, -1));
         Check.argument("way(0, 10)", () -> x.way(0, 10));
         Check.promise(40);
+        Check.is("ways(59582), 31 and 31", x.ways(59582), 1);
+        Check.is("ways(62559), 31 and 32", x.ways(62559), 1);
+        Check.is("ways(64001), 1 and 40", x.ways(64001), 1);
         Check.argument("ways(-1)", () -> x.ways(-1));
         Check.argument("ways(65536)", () -> x.ways(MOST + 1));
         fresh(42);
