@@ -995,9 +995,9 @@ public final class Cubequarry {
     }
 
     /**
-     * The 64 digits of NUMBERS, by KIND, t and SIGN alone. Those of the KINDS 2 to 4 are got as the document tells
-     * it: a cube root near the true one, that multiplied by itself and by itself again, and the cube
-     * root of this.
+     * The 64 digits of NUMBERS, by KIND, t and SIGN alone. Those of the KINDS 2 to 4 are got as the
+     * document tells it: a cube root near the true one, that multiplied by itself and by itself again,
+     * and the cube root of this.
      */
     private static final class Library {
         static final long SIGN = 1L << 63;
