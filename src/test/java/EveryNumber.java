@@ -1,3 +1,5 @@
+import java.math.BigInteger;
+
 /** What the document says of all numbers, asked of each one. */
 final class EveryNumber {
     private static final int MOST = 65535;
@@ -65,8 +67,39 @@ final class EveryNumber {
         Check.is("isSound()" + of, x.isSound(), true);
     }
 
+    /** Whether w is the root of t eighths, times 2^k, rounded down: by cubes, times 8. */
+    private static boolean isRoundedDown(long w, int t, int k) {
+        BigInteger due = BigInteger.valueOf(t).shiftLeft(3 * k);
+        BigInteger low = BigInteger.valueOf(w).pow(3).shiftLeft(3);
+        BigInteger high = BigInteger.valueOf(w + 1).pow(3).shiftLeft(3);
+        return low.compareTo(due) <= 0 && high.compareTo(due) > 0;
+    }
+
+    /** The WHOLES with the most digits, where the program needs numbers of more than 64 digits. */
+    private static void longWholes() {
+        Check.promise(35);
+        for (int t = -8 * MOST; t <= 8 * MOST; t++) {
+            if (Math.abs(t) > MOST && t % 8 != 0) {
+                continue;
+            }
+            Cubequarry x = new Cubequarry();
+            for (int k = 22; k <= 32; k++) {
+                Check.is("rootWhole(" + t + ", " + k + ")", isWholeRight(x, t, k), true);
+            }
+        }
+    }
+
+    private static boolean isWholeRight(Cubequarry x, int t, int k) {
+        try {
+            return isRoundedDown(x.rootWhole(t, k), t, k);
+        } catch (IllegalStateException e) {
+            return BigInteger.valueOf(t).abs().shiftLeft(3 * k - 3).bitLength() > 93;
+        }
+    }
+
     public static void main(String[] args) {
         withoutCells();
+        longWholes();
         rise();
         cubes();
         Check.promise(32);
