@@ -31,7 +31,8 @@ final class Acts {
         Cells.done("the greatest again", x, y -> y.eighths(0, MOST), 0, "eighths 65535/" + SEVEN_ZEROS);
         Cells.done("the least", x, y -> y.eighths(0, -MOST), 1, "eighths -65535/" + SEVEN_ZEROS);
         x = Cells.with("root 5", "cubed 5", "again 5");
-        Cells.done("to a ROOT of the same t", x, y -> y.eighths(0, 5), 1, "eighths 5/cubed 5/again 5/zero/zero/zero/zero/zero");
+        Cells.done("to a ROOT of the same t", x, y -> y.eighths(0, 5), 1,
+                "eighths 5/cubed 5/again 5/zero/zero/zero/zero/zero");
         Cells.done("to a NEAR one", x, y -> y.eighths(1, 5), 1, "eighths 5/eighths 5/again 5/zero/zero/zero/zero/zero");
         Cells.done("to an AGAIN of the same t", x, y -> y.eighths(2, 5), 1,
                 "eighths 5/eighths 5/eighths 5/zero/zero/zero/zero/zero");
@@ -101,7 +102,8 @@ final class Acts {
         Cells.done("copy(2, 0)", x, y -> y.copy(2, 0), 1, "-endless/-zero/-endless/-zero/zero/zero/zero/again -5");
         Cells.done("copy(2, 2), to itself", x, y -> y.copy(2, 2), 0,
                 "-endless/-zero/-endless/-zero/zero/zero/zero/again -5");
-        Cells.done("turn(0), not its copy", x, y -> y.turn(0), 1, "endless/-zero/-endless/-zero/zero/zero/zero/again -5");
+        Cells.done("turn(0), not its copy", x, y -> y.turn(0), 1,
+                "endless/-zero/-endless/-zero/zero/zero/zero/again -5");
         Document.says(9, "ZERO ABOVE becomes ZERO BELOW, ENDLESS ABOVE ENDLESS BELOW, and the other way round.");
         String above = "eighths 524280/root 524280/cubed 65535/again 2/zero/endless/";
         String below = "eighths -524280/root -524280/cubed -65535/again -2/-zero/-endless/";
@@ -221,8 +223,8 @@ final class Acts {
     }
 
     private static void comesToCell3(boolean isGreatest, int due, String after, String... texts) {
-        Cells.done("end(" + isGreatest + ", 3) of " + String.join("/", texts), Cells.with(texts), x -> x.end(isGreatest, 3),
-                due, after);
+        Cells.done("end(" + isGreatest + ", 3) of " + String.join("/", texts), Cells.with(texts),
+                x -> x.end(isGreatest, 3), due, after);
     }
 
     private static void end() {
@@ -263,8 +265,8 @@ final class Acts {
     }
 
     private static void sort() {
-        Document.says(17, "All cells are put in ORDER, what is ahead first; of those of which neither stands ahead, the "
-                + "one that had the smaller cell stays ahead.");
+        Document.says(17, "All cells are put in ORDER, what is ahead first; of those of which neither stands ahead, "
+                + "the one that had the smaller cell stays ahead.");
         sorted(8, "-endless/eighths -9/root -9/-zero/zero/eighths 9/root 524280/endless",
                 "endless/root 524280/eighths 9/zero/-zero/root -9/eighths -9/-endless");
         // 9 eighths are 1.125, their root is 1.04...: the roots stand ahead.

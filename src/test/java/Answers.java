@@ -10,7 +10,8 @@ final class Answers {
     // ---- what is asked of it
 
     private static void kindOfIsBelow() {
-        String[] texts = {"eighths 5", "root -5", "cubed 524280", "again -524280", "zero", "-zero", "endless", "-endless"};
+        String[] texts = {"eighths 5", "root -5", "cubed 524280", "again -524280", "zero", "-zero", "endless",
+            "-endless"};
         int[] kinds = {0, 2, 3, 4, 0, 0, 1, 1};
         int[] of = {5, -5, 524280, -524280, 0, 0, 1000000, -1000000};
         boolean[] below = {false, true, false, true, false, true, false, true};
@@ -178,7 +179,8 @@ final class Answers {
         Check.is("ZERO ABOVE and BELOW", x.isNear(4, 5), false);
         Check.is("root and cubed", x.isNear(1, 2), false);
         Check.is("root and again", x.isNear(1, 3), true);
-        Document.says(32, "Returns whether the one is not more STEPS from the other one than most() tells (it is not).");
+        Document.says(32, "Returns whether the one is not more STEPS from the other one than most() tells "
+                + "(it is not).");
         for (int t = 2; t <= MOST; t += 263) {
             Cubequarry y = new Cubequarry();
             y.eighths(0, -t);
@@ -327,12 +329,13 @@ final class Answers {
         Check.is("from + 200", x.stepsUp(63800, 200), 1);
         Check.is("not from + 201", x.stepsUp(63799, 200), 0);
         Check.is("up to 65535", x.stepsUp(65335, 200), 0);
-        Document.says(43, "Returns for how many of these numbers wholePart() is greater than for the number right ahead "
-                + "(so for cubes alone).");
+        Document.says(43, "Returns for how many of these numbers wholePart() is greater than for the number right "
+                + "ahead (so for cubes alone).");
         Check.is("1, 8, 27, 64, 125", x.stepsUp(0, 200), 5);
         Check.is("1 to 124", x.stepsUp(0, 124), 4);
         Check.is("2 to 125", x.stepsUp(1, 124), 4);
-        Document.says(44, "Returns the least number above n for which wholePart() is greater than for n (it is a cube).");
+        Document.says(44, "Returns the least number above n for which wholePart() is greater than for n "
+                + "(it is a cube).");
         Check.is("nextStep(0)", x.nextStep(0), 1);
         for (int a = 1; a <= 20; a++) {
             int next = (a + 1) * (a + 1) * (a + 1);
@@ -387,7 +390,8 @@ final class Answers {
         Check.is("up to 65535", x.below(65336, 200, 21, 0), 200);
         Check.is("up to 65535, none", x.below(65336, 200, 20, 0), 0);
         Check.is("65535 itself", x.below(MOST, 1, 21, 0), 1);
-        Document.says(49, "Returns how many of the EXACT ones of these become, ROOTED, less than n * 2^-k (of 0 it is 0).");
+        Document.says(49, "Returns how many of the EXACT ones of these become, ROOTED, less than n * 2^-k "
+                + "(of 0 it is 0).");
         Check.is("0 is less than 1", x.below(0, 1, 1, 40), 1);
         Check.is("0 is not less than 0", x.below(0, 1, 0, 0), 0);
         Check.is("0 is not less than -1", x.below(0, 1, -1, 40), 0);
@@ -513,8 +517,8 @@ final class Answers {
                 "eighths 5", "eighths 5").isSound(), true);
         Check.is("of ZEROS and ENDLESS ones", Cells.with("zero", "-zero", "endless", "-endless", "zero", "-zero",
                 "endless", "-endless").isSound(), true);
-        Document.says(52, "of each ROOT of t the WHOLE by 8 of it without its SIGN, w, is such that w * w * w is not above "
-                + "2^21 * |t|, and (w + 1) * (w + 1) * (w + 1) is above that");
+        Document.says(52, "of each ROOT of t the WHOLE by 8 of it without its SIGN, w, is such that w * w * w is not "
+                + "above 2^21 * |t|, and (w + 1) * (w + 1) * (w + 1) is above that");
         Check.is("of the least and the greatest roots", Cells.with("root -524280", "root -65535", "root -2", "root 2",
                 "root 7", "root 9", "root 65535", "root 524280").isSound(), true);
     }
@@ -562,7 +566,8 @@ final class Answers {
         Check.is("some are below 0", isBelow, true);
         Document.says(53, "for each two cells of which the first one has the smaller number "
                 + "(by that, then by the other one's) order()");
-        Cubequarry x = Cells.with("root 5", "-zero", "again 5", "endless", "cubed 5", "-endless", "eighths 5", "root -5");
+        Cubequarry x = Cells.with("root 5", "-zero", "again 5", "endless", "cubed 5", "-endless", "eighths 5",
+                "root -5");
         Check.is("of unlike ones", x.digest(), unwrapped(x).longValue());
         x.sort();
         x.root(0, 1);

@@ -206,6 +206,11 @@ final class Sections {
         isKept("eighths 65536", 0x40c00000, 0);
         isKept("eighths 524280", 0x40efffe0, 0);
         isKept("eighths -524280", 0xc0efffe0, 0);
+        Document.says("Section 1", "An EXACT one but of 0 is kept just as it is.");
+        for (int t : new int[] {1, -1, 3, -7, 4095, 4097, -32767, MOST, -MOST, 65544, -131080, 524280, -524280}) {
+            long bits = Double.doubleToLongBits(t / 8.0);
+            isKept("eighths " + t, (int) (bits >> 32), (int) bits);
+        }
         Document.says("Section 1", "ENDLESS ones have the EXPONENT 2047 and the FRACTION 0");
         isKept("endless", 0x7ff00000, 0);
         isKept("-endless", 0xfff00000, 0);
@@ -287,7 +292,8 @@ final class Sections {
         int came = from.equals(to) ? 0 : 1;
         Cubequarry x = Cells.with(from, "again 3");
         Cells.done(what, x, y -> act(y, how, 0, 1), 1, from + "/" + to + "/zero/zero/zero/zero/zero/zero");
-        Cells.done(what + " once more", x, y -> act(y, how, 0, 1), 0, from + "/" + to + "/zero/zero/zero/zero/zero/zero");
+        Cells.done(what + " once more", x, y -> act(y, how, 0, 1), 0,
+                from + "/" + to + "/zero/zero/zero/zero/zero/zero");
         x = Cells.with(from);
         Cells.done(what + " in its place", x, y -> act(y, how, 0, 0), came, to + "/zero/zero/zero/zero/zero/zero/zero");
         x = Cells.with(from);
@@ -388,8 +394,8 @@ final class Sections {
     }
 
     private static void eightTimes() {
-        Document.says("Section 2", "EIGHT times an EXACT one of t is that of 8 * t, EIGHT times a CUBED one of t is the "
-                + "CUBED one of 8 * t, if 8 * t is of the SET.");
+        Document.says("Section 2", "EIGHT times an EXACT one of t is that of 8 * t, EIGHT times a CUBED one of t is "
+                + "the CUBED one of 8 * t, if 8 * t is of the SET.");
         for (int sign = -1; sign <= 1; sign += 2) {
             for (int t : new int[] {1, 2, 8192, 65534, MOST}) {
                 becomes(5, "eighths " + sign * t, "eighths " + sign * 8 * t);
@@ -462,6 +468,26 @@ final class Sections {
         Check.is("root and again", x.order(1, 3), 2);
         Check.is("again and root", x.order(3, 1), 2);
         orderByCubes();
+    }
+
+    private static void orderByTrueNumbers() {
+        Document.says("Section 1", "all that is asked of such a NUMBER goes by the TRUE number, "
+                + "but where STEPS are named.");
+        Cubequarry x = Cells.with("root 3907", "again 3907", "cubed 63", "eighths 63", "root -3907", "cubed -63");
+        int[] ranks = {6, 6, 4, 4, 0, 1};
+        for (int cell = 0; cell < ranks.length; cell++) {
+            Check.is("the rank of " + x.text(cell), x.rank(cell), ranks[cell]);
+        }
+        x.sort();
+        Check.is("the cells in ORDER", Cells.texts(x),
+                "root -3907/cubed -63/zero/zero/cubed 63/eighths 63/root 3907/again 3907");
+        Document.says("Section 1", "1, an ENDLESS one: ENDLESS ABOVE is above all others, "
+                + "ENDLESS BELOW below all others.");
+        isAhead("eighths 524280", "endless");
+        isAhead("cubed 524280", "endless");
+        isAhead("-endless", "eighths -524280");
+        isAhead("-endless", "again -524280");
+        isAhead("-endless", "endless");
     }
 
     private static void orderByCubes() {
@@ -608,7 +634,8 @@ final class Sections {
 
     private static void heightAndDigits() {
         Document.says("Section 4", "HEIGHT, of a NUMBER of the KINDS 0 and 2 that is no ZERO (others have none): that "
-                + "whole number h with which the TRUE number, without its SIGN, is 2^h or more, and less than 2^(h + 1).");
+                + "whole number h with which the TRUE number, without its SIGN, is 2^h or more, and less than "
+                + "2^(h + 1).");
         for (int power = 0; power <= 18; power++) {
             isTall("eighths", 1 << power, power - 3, 1 << 30);
         }
@@ -689,6 +716,7 @@ final class Sections {
         staying();
         howNear();
         order();
+        orderByTrueNumbers();
         whole();
         wholeByEachPower();
         decimals();
