@@ -192,6 +192,11 @@ final class Sections {
         Check.is("lower of " + text, x.lower(0), lower);
     }
 
+    private static void isKeptAsItIs(int t) {
+        long bits = Double.doubleToLongBits(t / 8.0);
+        isKept("eighths " + t, (int) (bits >> 32), (int) bits);
+    }
+
     private static void sixtyFourDigits() {
         Document.says("Section 1", "with an EXPONENT of 1 to 2046 it is (2^52 + FRACTION) * 2^(EXPONENT - 1075), "
                 + "with the sign 1 that below 0");
@@ -208,8 +213,11 @@ final class Sections {
         isKept("eighths -524280", 0xc0efffe0, 0);
         Document.says("Section 1", "An EXACT one but of 0 is kept just as it is.");
         for (int t : new int[] {1, -1, 3, -7, 4095, 4097, -32767, MOST, -MOST, 65544, -131080, 524280, -524280}) {
-            long bits = Double.doubleToLongBits(t / 8.0);
-            isKept("eighths " + t, (int) (bits >> 32), (int) bits);
+            isKeptAsItIs(t);
+        }
+        for (int t = 1; t <= 600; t++) {
+            isKeptAsItIs(t);
+            isKeptAsItIs(-8 * t);
         }
         Document.says("Section 1", "ENDLESS ones have the EXPONENT 2047 and the FRACTION 0");
         isKept("endless", 0x7ff00000, 0);
